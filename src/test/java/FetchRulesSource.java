@@ -1,0 +1,123 @@
+import java.lang.reflect.Constructor;
+import java.lang.reflect.Field;
+import java.lang.reflect.Method;
+import java.lang.reflect.Modifier;
+import java.nio.file.Files;
+import java.nio.file.Path;
+import java.util.ArrayList;
+import java.util.List;
+import java.util.TreeSet;
+import java.util.regex.Matcher;
+import java.util.regex.Pattern;
+
+/** The public face, and those rules of LANGUAGE.md that can be seen without running the class. */
+public final class FetchRulesSource {
+    private static final Path SOURCE = Path.of("src/main/java/FetchRules.java");
+    private static final String[] FACE = {
+        "boolean content(int, long, int)", "boolean credential(int, boolean)", "boolean cut(int, int, int)",
+        "boolean does(int, int, int)", "boolean from(int, int)", "int about(int, int)", "int barred(int, int)",
+        "int begin(int)", "int byteOf(int, int)", "int came(int)", "int digest(int)", "int file(int, int)",
+        "int lacks(int)", "int place(int, int)", "int sent(int)", "int tick(int)", "int unpack(int, int)", "int want(int)",
+        "void offLine(boolean)"};
+    private static final String[] FORBIDDEN = {
+        "import", "package", "throw", "throws", "try", "catch", "synchronized", "assert", "->", "::", "Object", "protected",
+        "\\w+Exception", "\\w+Exact", "var"};
+
+    private static int wrong = 0;
+
+    private static void wants(boolean holds, String what) {
+        if (!holds) {
+            wrong++;
+            System.out.println("not so: " + what);
+        }
+    }
+
+    public static void main(String[] args) throws Exception {
+        checkFace();
+        checkClasses();
+        checkText();
+        System.out.println(wrong == 0 ? "face and text are as told" : wrong + " faults of face or text");
+        if (wrong != 0) {
+            System.exit(1);
+        }
+    }
+
+    private static String written(Method method) {
+        StringBuilder text = new StringBuilder();
+        text.append(method.getReturnType().getSimpleName()).append(' ').append(method.getName()).append('(');
+        Class<?>[] types = method.getParameterTypes();
+        for (int i = 0; i < types.length; i++) {
+            text.append(i == 0 ? "" : ", ").append(types[i].getSimpleName());
+        }
+        return text.append(')').toString();
+    }
+
+    private static void checkFace() throws Exception {
+        wants(Modifier.isPublic(FetchRules.class.getModifiers()), "the class is public");
+        wants(Modifier.isFinal(FetchRules.class.getModifiers()), "the class is final");
+        TreeSet<String> open = new TreeSet<>();
+        TreeSet<String> names = new TreeSet<>();
+        List<String> hidden = new ArrayList<>();
+        for (Method method : FetchRules.class.getDeclaredMethods()) {
+            if (Modifier.isPrivate(method.getModifiers())) {
+                hidden.add(method.getName());
+            } else {
+                wants(Modifier.isPublic(method.getModifiers()), method + " is public or private");
+                open.add(written(method));
+                names.add(method.getName());
+            }
+        }
+        wants(open.equals(new TreeSet<>(List.of(FACE))), "the public methods are the document's: " + open);
+        for (String name : hidden) {
+            wants(!names.contains(name), "no private method bears the name of a public one: " + name);
+        }
+        Constructor<?>[] constructors = FetchRules.class.getDeclaredConstructors();
+        wants(constructors.length == 1, "one constructor");
+        wants(Modifier.isPublic(FetchRules.class.getConstructor(int.class).getModifiers()), "a public constructor of an int");
+        for (Field field : FetchRules.class.getDeclaredFields()) {
+            wants(Modifier.isPrivate(field.getModifiers()) || field.getName().equals("NONE"), field + " is private");
+        }
+        Field none = FetchRules.class.getField("NONE");
+        wants(Modifier.isStatic(none.getModifiers()) && Modifier.isFinal(none.getModifiers()), "NONE is static and final");
+        wants(none.getType() == int.class && none.getInt(null) == -1, "NONE is the int -1");
+    }
+
+    private static void checkClasses() {
+        List<Class<?>> classes = new ArrayList<>(List.of(FetchRules.class.getDeclaredClasses()));
+        for (Class<?> inside : classes) {
+            wants(Modifier.isStatic(inside.getModifiers()), inside + " is static");
+            wants(!Modifier.isPublic(inside.getModifiers()), inside + " isn't public");
+        }
+        classes.add(FetchRules.class);
+        wants(classes.size() <= 12, "twelve classes at the most");
+        for (Class<?> one : classes) {
+            int fields = 0;
+            for (Field field : one.getDeclaredFields()) {
+                boolean isStatic = Modifier.isStatic(field.getModifiers());
+                wants(!isStatic || Modifier.isFinal(field.getModifiers()), field + " is final, as it is static");
+                fields += isStatic ? 0 : 1;
+            }
+            wants(fields <= 20, one + " has twenty fields at the most");
+            for (Method method : one.getDeclaredMethods()) {
+                wants(method.getParameterCount() <= 7, method + " has seven parameters at the most");
+            }
+        }
+    }
+
+    private static void checkText() throws Exception {
+        String text = Files.readString(SOURCE);
+        String code = text.replaceAll("(?s)/\\*.*?\\*/", "").replaceAll("//[^\n]*", "");
+        for (String word : FORBIDDEN) {
+            boolean isSign = word.equals("->") || word.equals("::");
+            Matcher found = Pattern.compile(isSign ? word : "\\b" + word + "\\b").matcher(code);
+            wants(!found.find(), "the class is without " + word);
+        }
+        // What makes objects stands in field initialisers and constructors, so that no call uses up the room.
+        Matcher makes = Pattern.compile("(?m)^.*\\bnew\\b.*$").matcher(code);
+        while (makes.find()) {
+            String line = makes.group().trim();
+            boolean isField = line.contains(" final ") || line.startsWith("final ");
+            wants(isField || line.matches("(places|wants|rows)\\[i\\] = new \\w+\\(\\);"), "made in a constructor: " + line);
+        }
+    }
+}
