@@ -20,8 +20,8 @@ public final class FetchRules {
     private static final int MOST_STRIPPED = 5;
     private static final int MOST_PATH = 20;
 
-    // A PLACE that is BARRED is not begun with again, so at most every WANT tells of it once.
-    private static final int MOST_TELLINGS = MOST_PLACES * MOST_WANTS;
+    // A WANT does not come back to a PLACE that is BARRED, so it tells of each of its PLACES once at the most.
+    private static final int MOST_TELLINGS = MOST_WANTS * MOST_PLACES_OF_WANT;
     // The shortest ENTRY has three bytes: n, one character, m.
     private static final int MOST_FILES = MOST_BYTES / 3;
 
@@ -410,10 +410,6 @@ public final class FetchRules {
             }
         }
 
-        void clear() {
-            length = 0;
-        }
-
         void copyFrom(Row other) {
             System.arraycopy(other.values, 0, values, 0, other.length);
             length = other.length;
@@ -422,7 +418,8 @@ public final class FetchRules {
         int computeDigest() {
             int s = 0;
             for (int i = 0; i < length; i++) {
-                s = Integer.rotateLeft(s ^ values[i], 5) * 0x85EBCA77;
+                int mixed = s ^ values[i];
+                s = (mixed << 5 | mixed >>> 27) * 0x85EBCA77;
             }
             return s;
         }
@@ -512,7 +509,7 @@ public final class FetchRules {
         void startAt(int index) {
             current = index;
             falters = 0;
-            bytes.clear();
+            bytes.length = 0;
             state = FETCHES;
         }
     }

@@ -554,8 +554,7 @@ public final class FetchRulesPromises {
         due("FAILED: not IDLE", x.from(other, 4), false);
         int done = begunFrom(x, digestOf(5));
         due("DONE: not IDLE", x.from(done, 4), false);
-        x.content(4, 7, 1);
-        x.cut(4, 1, 0);
+
         FetchRules y = new FetchRules(1);
         int a = placeWith(y, 0, 1, 1);
         int b = placeWith(y, 0, 1, 1);
@@ -660,6 +659,15 @@ public final class FetchRulesPromises {
             due("KEPT", y.begin(wants[i]), DONE);
             due("its first byte", y.byteOf(wants[i], 0), i + 1);
         }
+
+        FetchRules v = new FetchRules(0);
+        begunFrom(v, digestOf(8, 9), placeWith(v, 0, 50, 8, 9));
+        v.tick(1);
+        int sharing = v.want(digestOf(8, 9));
+        due("a WANT without PLACES has what is KEPT", v.begin(sharing), DONE);
+        due("byte 0", v.byteOf(sharing, 0), 8);
+        due("byte 1", v.byteOf(sharing, 1), 9);
+        due("no byte 2", v.byteOf(sharing, 2), NONE);
 
         FetchRules z = new FetchRules(0);
         int liar = placeWith(z, 0, 50, 4);
