@@ -1,33 +1,5 @@
-import java.util.ArrayList;
-import java.util.List;
-
 /** For each promise of the document: ordinary inputs, the edges that it names, and wrong inputs. */
-public final class FetchRulesPromises {
-    private static final int NONE = -1;
-    private static final int IDLE = 0;
-    private static final int FETCHES = 1;
-    private static final int WAITS = 2;
-    private static final int DONE = 3;
-    private static final int FAILED = 4;
-    private static final int LOW = Integer.MIN_VALUE;
-    private static final int HIGH = Integer.MAX_VALUE;
-
-    private static int wrong = 0;
-    private static int checked = 0;
-    private static String promise = "";
-
-    private static void due(String what, long got, long want) {
-        checked++;
-        if (got != want) {
-            wrong++;
-            System.out.println("promise " + promise + ": " + what + " answered " + got + ", due is " + want);
-        }
-    }
-
-    private static void due(String what, boolean got, boolean want) {
-        due(what, got ? 1L : 0L, want ? 1L : 0L);
-    }
-
+public final class FetchRulesPromises extends Checks {
     public static void main(String[] args) {
         promise1();
         promise2();
@@ -64,90 +36,8 @@ public final class FetchRulesPromises {
         promise20();
         promise20Latest();
         promise20Most();
-        System.out.println(wrong == 0 ? checked + " answers are as due" : wrong + " answers are not as due");
-        if (wrong != 0) {
-            System.exit(1);
-        }
+        end();
     }
-
-    // ---- what the tests are made of
-
-    private static int digestOf(int... bytes) {
-        long s = 0;
-        for (int b : bytes) {
-            long v = (s ^ b) & 0xFFFFFFFFL;
-            v = (v << 5 | v >>> 27) & 0xFFFFFFFFL;
-            s = v * 0x85EBCA77L & 0xFFFFFFFFL;
-        }
-        return (int) s;
-    }
-
-    private static int[] upTo(int n) {
-        int[] bytes = new int[n];
-        for (int i = 0; i < n; i++) {
-            bytes[i] = i + 1;
-        }
-        return bytes;
-    }
-
-    private static int placeWith(FetchRules x, int host, int rate, int... bytes) {
-        int place = x.place(host, rate);
-        for (int b : bytes) {
-            x.content(place, b, 1);
-        }
-        return place;
-    }
-
-    private static int wantFrom(FetchRules x, int digest, int... places) {
-        int want = x.want(digest);
-        for (int place : places) {
-            x.from(want, place);
-        }
-        return want;
-    }
-
-    private static int begunFrom(FetchRules x, int digest, int... places) {
-        int want = wantFrom(x, digest, places);
-        x.begin(want);
-        return want;
-    }
-
-    private static FetchRules doneWith(int... bytes) {
-        FetchRules x = new FetchRules(0);
-        begunFrom(x, digestOf(bytes), placeWith(x, 0, 50, bytes));
-        x.tick(2);
-        return x;
-    }
-
-    /** ENTRIES: a path, then how many bytes it has, all of them 7. */
-    private static int[] archive(Object... pathsAndSizes) {
-        List<Integer> row = new ArrayList<>();
-        for (int i = 0; i < pathsAndSizes.length; i += 2) {
-            String path = (String) pathsAndSizes[i];
-            int size = (Integer) pathsAndSizes[i + 1];
-            row.add(path.length());
-            for (char c : path.toCharArray()) {
-                row.add((int) c);
-            }
-            row.add(size);
-            for (int j = 0; j < size; j++) {
-                row.add(7);
-            }
-        }
-        return row.stream().mapToInt(Integer::intValue).toArray();
-    }
-
-    private static int[] without(int[] bytes, int atEnd) {
-        return java.util.Arrays.copyOf(bytes, bytes.length - atEnd);
-    }
-
-    private static int[] joined(int[] first, int... second) {
-        int[] both = java.util.Arrays.copyOf(first, first.length + second.length);
-        System.arraycopy(second, 0, both, first.length, second.length);
-        return both;
-    }
-
-    // ---- the promises
 
     /** How many times a WANT comes to WAIT until it is GIVEN UP, and the clock at which it has FAILED. */
     private static int[] waitsBeforeFailing(int retries) {
@@ -171,7 +61,7 @@ public final class FetchRulesPromises {
     }
 
     private static void promise1() {
-        promise = "1";
+        heldTo = "promise 1";
         FetchRules x = new FetchRules(3);
         due("digest(0)", x.digest(0), 0);
         due("cut(0, 1, 1)", x.cut(0, 1, 1), false);
@@ -198,7 +88,7 @@ public final class FetchRulesPromises {
     }
 
     private static void promise2() {
-        promise = "2";
+        heldTo = "promise 2";
         FetchRules x = new FetchRules(0);
         due("credential(-1, true)", x.credential(-1, true), false);
         due("credential(8, true)", x.credential(8, true), false);
@@ -226,7 +116,7 @@ public final class FetchRulesPromises {
     }
 
     private static void promise3() {
-        promise = "3";
+        heldTo = "promise 3";
         FetchRules x = new FetchRules(0);
         due("place(-1, 1)", x.place(-1, 1), NONE);
         due("place(8, 1)", x.place(8, 1), NONE);
@@ -247,7 +137,7 @@ public final class FetchRulesPromises {
     }
 
     private static void promise4() {
-        promise = "4";
+        heldTo = "promise 4";
         FetchRules x = new FetchRules(0);
         int place = x.place(0, 50);
         long w = 0xF1F2030405060708L;
@@ -287,7 +177,7 @@ public final class FetchRulesPromises {
     }
 
     private static void promise5() {
-        promise = "5";
+        heldTo = "promise 5";
         FetchRules x = new FetchRules(0);
         int a = placeWith(x, 0, 50, 1);
         int b = placeWith(x, 0, 50, 2);
@@ -326,7 +216,7 @@ public final class FetchRulesPromises {
     }
 
     private static void promise5Leading() {
-        promise = "5, LEADS";
+        heldTo = "promise 5, LEADS";
         FetchRules x = new FetchRules(0);
         int[] p = new int[6];
         for (int i = 0; i < 6; i++) {
@@ -380,7 +270,7 @@ public final class FetchRulesPromises {
     }
 
     private static void promise5Lying() {
-        promise = "5, LIES";
+        heldTo = "promise 5, LIES";
         FetchRules x = new FetchRules(0);
         int liar = placeWith(x, 0, 1, 4, 4);
         due("LIES", x.does(liar, 3, 9), true);
@@ -402,7 +292,7 @@ public final class FetchRulesPromises {
     }
 
     private static void promise6() {
-        promise = "6";
+        heldTo = "promise 6";
         FetchRules x = new FetchRules(5);
         int p = placeWith(x, 0, 3, upTo(20));
         due("no such place", x.cut(1, 1, 1), false);
@@ -440,7 +330,7 @@ public final class FetchRulesPromises {
     }
 
     private static void promise6Shared() {
-        promise = "6, answers";
+        heldTo = "promise 6, answers";
         FetchRules x = new FetchRules(5);
         int p = placeWith(x, 0, 50, upTo(10));
         int lead = x.place(0, 50);
@@ -483,7 +373,7 @@ public final class FetchRulesPromises {
     }
 
     private static void promise7() {
-        promise = "7";
+        heldTo = "promise 7";
         FetchRules x = new FetchRules(0);
         due("none such", x.digest(0), 0);
         int p = x.place(0, 1);
@@ -503,7 +393,7 @@ public final class FetchRulesPromises {
     }
 
     private static void promise8() {
-        promise = "8";
+        heldTo = "promise 8";
         FetchRules x = new FetchRules(0);
         for (int i = 0; i < 10; i++) {
             due("want", x.want(i == 0 ? LOW : i), i);
@@ -518,7 +408,7 @@ public final class FetchRulesPromises {
     }
 
     private static void promise9() {
-        promise = "9";
+        heldTo = "promise 9";
         FetchRules x = new FetchRules(0);
         for (int i = 0; i < 8; i++) {
             placeWith(x, 0, 50, i);
@@ -566,7 +456,7 @@ public final class FetchRulesPromises {
     }
 
     private static void promise10() {
-        promise = "10";
+        heldTo = "promise 10";
         FetchRules x = new FetchRules(0);
         int p = placeWith(x, 0, 1, 1, 2);
         int q = placeWith(x, 0, 1, 3, 4);
@@ -584,7 +474,7 @@ public final class FetchRulesPromises {
     }
 
     private static void promise11() {
-        promise = "11";
+        heldTo = "promise 11";
         FetchRules x = new FetchRules(2);
         due("none such", x.begin(0), NONE);
         int lone = x.want(1);
@@ -628,7 +518,7 @@ public final class FetchRulesPromises {
     }
 
     private static void promise11Kept() {
-        promise = "11, KEPT";
+        heldTo = "promise 11, KEPT";
         FetchRules x = new FetchRules(0);
         int p = placeWith(x, 0, 50, 0);
         int q = placeWith(x, 0, 50, 0, 0);
@@ -678,7 +568,7 @@ public final class FetchRulesPromises {
     }
 
     private static void promise12() {
-        promise = "12";
+        heldTo = "promise 12";
         FetchRules x = new FetchRules(0);
         int p = placeWith(x, 0, 1, upTo(60));
         int want = begunFrom(x, digestOf(upTo(60)), p);
@@ -713,7 +603,7 @@ public final class FetchRulesPromises {
     }
 
     private static void promise12Rates() {
-        promise = "12, TURNS";
+        heldTo = "promise 12, TURNS";
         FetchRules x = new FetchRules(0);
         int p = placeWith(x, 0, 50, upTo(100));
         int want = begunFrom(x, digestOf(upTo(100)), p);
@@ -750,7 +640,7 @@ public final class FetchRulesPromises {
     }
 
     private static void promise12Faltering() {
-        promise = "12, FALTERING";
+        heldTo = "promise 12, FALTERING";
         FetchRules x = new FetchRules(5);
         int p = placeWith(x, 0, 50, upTo(10));
         int q = placeWith(x, 0, 50, upTo(9));
@@ -809,7 +699,7 @@ public final class FetchRulesPromises {
     }
 
     private static void promise12GivenUp() {
-        promise = "12, GIVEN UP";
+        heldTo = "promise 12, GIVEN UP";
         FetchRules x = new FetchRules(0);
         int first = placeWith(x, 0, 1, 1, 2);
         int liar = placeWith(x, 0, 50, 3, 3);
@@ -841,7 +731,7 @@ public final class FetchRulesPromises {
     }
 
     private static void promise13() {
-        promise = "13";
+        heldTo = "promise 13";
         FetchRules x = new FetchRules(1);
         due("none such", x.about(0, 0), NONE);
         int p = placeWith(x, 0, 2, 1, 2, 3);
@@ -893,7 +783,7 @@ public final class FetchRulesPromises {
 
     /** The document takes the bytes from a WANT that FETCHES anew, and from no other. */
     private static void promise13BytesOfFailed() {
-        promise = "13, bytes of one that FAILED";
+        heldTo = "promise 13, bytes of one that FAILED";
         FetchRules x = new FetchRules(0);
         int p = placeWith(x, 0, 50, 1, 2, 3);
         x.cut(p, 1, 2);
@@ -911,7 +801,7 @@ public final class FetchRulesPromises {
     }
 
     private static void promise14() {
-        promise = "14";
+        heldTo = "promise 14";
         FetchRules x = new FetchRules(0);
         due("none such", x.byteOf(0, 0), NONE);
         int p = placeWith(x, 0, 2, 255, 0, 128);
@@ -944,7 +834,7 @@ public final class FetchRulesPromises {
     }
 
     private static void promise15And16() {
-        promise = "15 and 16";
+        heldTo = "promise 15 and 16";
         FetchRules x = new FetchRules(0);
         int p = placeWith(x, 0, 50, 1);
         int q = placeWith(x, 0, 50, 2, 2);
@@ -982,7 +872,7 @@ public final class FetchRulesPromises {
     }
 
     private static void promise15Led() {
-        promise = "15, led";
+        heldTo = "promise 15, led";
         FetchRules x = new FetchRules(0);
         int lead = placeWith(x, 0, 50, 9);
         int giver = placeWith(x, 1, 50, 1, 2);
@@ -997,7 +887,7 @@ public final class FetchRulesPromises {
     }
 
     private static void promise15MostTellings() {
-        promise = "15, all that can be told";
+        heldTo = "promise 15, all that can be told";
         FetchRules x = new FetchRules(0);
         for (int i = 0; i < 16; i++) {
             placeWith(x, 0, 50, i + 1);
@@ -1018,7 +908,7 @@ public final class FetchRulesPromises {
     }
 
     private static void promise17() {
-        promise = "17";
+        heldTo = "promise 17";
         FetchRules x = new FetchRules(0);
         int p = placeWith(x, 0, 50, 1);
         for (int i = 0; i < 10; i++) {
@@ -1071,7 +961,7 @@ public final class FetchRulesPromises {
     }
 
     private static void promise18() {
-        promise = "18";
+        heldTo = "promise 18";
         FetchRules x = new FetchRules(3);
         due("none such", x.sent(-1), 0);
         due("none such", x.sent(8), 0);
@@ -1100,7 +990,7 @@ public final class FetchRulesPromises {
     }
 
     private static void promise18Leading() {
-        promise = "18, LEADS";
+        heldTo = "promise 18, LEADS";
         FetchRules x = new FetchRules(0);
         x.credential(1, true);
         x.credential(2, true);
@@ -1153,7 +1043,7 @@ public final class FetchRulesPromises {
     }
 
     private static void promise19() {
-        promise = "19";
+        heldTo = "promise 19";
         FetchRules x = doneWith(archive("a/b", 1, "c", 0));
         due("two FILES", x.unpack(0, 0), 2);
         due("no such WANT", x.unpack(1, 0), -1000);
@@ -1187,7 +1077,7 @@ public final class FetchRulesPromises {
     }
 
     private static void promise19Ill() {
-        promise = "19, ILL";
+        heldTo = "promise 19, ILL";
         int[] good = archive("a", 2);
         dueIll("n 0", 0, 0);
         dueIll("n 21", 0, 21);
@@ -1215,17 +1105,8 @@ public final class FetchRulesPromises {
         dueIll("one byte less", 99, without(archive("a", 97), 1));
     }
 
-    private static int[] shortest(int entries) {
-        int[] row = new int[3 * entries];
-        for (int i = 0; i < entries; i++) {
-            row[3 * i] = 1;
-            row[3 * i + 1] = i < 26 ? 'a' + i : '0' + i - 26;
-        }
-        return row;
-    }
-
     private static void promise19Paths() {
-        promise = "19, PATHS";
+        heldTo = "promise 19, PATHS";
         String[] right = {"a", "z", "0", "9", "a.b", ".a", "a.", "...", "a/...", "..a", "a..", "a/b", "a/b/c", "a/.b/c",
             "a/b./c", "a/..b", "....", "abcdefghij0123456789", "a/b/c/d/e/f/g/h/i/jk"};
         for (String path : right) {
@@ -1239,7 +1120,7 @@ public final class FetchRulesPromises {
     }
 
     private static void promise19Stripped() {
-        promise = "19, STRIPPED";
+        heldTo = "promise 19, STRIPPED";
         int[] row = archive("a", 1, "a/b", 2, "a/b/c", 3, "b/b", 4, "p/q/r/s/t/u", 0);
         int[] counts = {5, 3, 2, 1, 1, 1};
         FetchRules x = doneWith(row);
@@ -1250,15 +1131,8 @@ public final class FetchRulesPromises {
         due("with more than 5", doneWith(archive("p/q/r/s/t/u", 0)).unpack(0, 5), 1);
     }
 
-    private static void dueFile(FetchRules x, int i, int start, int length, int path, int pathLength) {
-        due("file(" + i + ", 0)", x.file(i, 0), start);
-        due("file(" + i + ", 1)", x.file(i, 1), length);
-        due("file(" + i + ", 2)", x.file(i, 2), path);
-        due("file(" + i + ", 3)", x.file(i, 3), pathLength);
-    }
-
     private static void promise20() {
-        promise = "20";
+        heldTo = "promise 20";
         // n and the PATHS stand at 0 (a), 4 (a/b), 11 (a/b/c), 21 (b/b), 30 (a)
         FetchRules x = doneWith(archive("a", 1, "a/b", 2, "a/b/c", 3, "b/b", 4, "a", 5));
         due("before any unpack", x.file(0, 0), NONE);
@@ -1284,7 +1158,7 @@ public final class FetchRulesPromises {
     }
 
     private static void promise20Latest() {
-        promise = "20, the latest";
+        heldTo = "promise 20, the latest";
         FetchRules x = doneWith(archive("a", 1, "b", 2));
         int ill = placeWith(x, 0, 50, joined(archive("c", 9), 0));
         int want = begunFrom(x, x.digest(ill), ill);
@@ -1301,7 +1175,7 @@ public final class FetchRulesPromises {
     }
 
     private static void promise20Most() {
-        promise = "20, the most";
+        heldTo = "promise 20, the most";
         FetchRules x = doneWith(shortest(33));
         due("33 FILES", x.unpack(0, 0), 33);
         for (int i = 0; i < 33; i++) {
