@@ -3,6 +3,7 @@ public final class FetchRulesBoundsOfBuilding extends Twins {
     private static final int[] FAR_OUT = {LOW, LOW + 1, -1000, 1000, HIGH - 1, HIGH};
 
     public static void main(String[] args) {
+        noneIsMinusOne();
         newObjectHasNoPlaces();
         newObjectHasNoWants();
         newObjectKeepsNothing();
@@ -53,6 +54,7 @@ public final class FetchRulesBoundsOfBuilding extends Twins {
         liesByAnyNumberBut0();
         noOtherKinds();
         nothingDoneByPlacesThatAreNot();
+        whatAPlaceDoesIsToldApart();
 
         cutTimesJustInside();
         cutTimesJustOutside();
@@ -83,6 +85,11 @@ public final class FetchRulesBoundsOfBuilding extends Twins {
         noPlacesForWantsThatAreNotIdle();
         lastPlaceOfSixteenForTheLastWantOfTen();
         end();
+    }
+
+    private static void noneIsMinusOne() {
+        terms("`NONE = -1`: None");
+        due("NONE", FetchRules.NONE, -1);
     }
 
     // ---- Promise 1
@@ -618,6 +625,31 @@ public final class FetchRulesBoundsOfBuilding extends Twins {
         }
     }
 
+    private static void whatAPlaceDoesIsToldApart() {
+        terms("A PLACE may be GONE, may LEAD to another PLACE, may WANT a CREDENTIAL, may be CUT");
+        int[] kinds = {0, 1, 2, 3};
+        for (int kind : kinds) {
+            FetchRules x = withPlaces(2);
+            for (int other : kinds) {
+                x.does(0, other, 1);
+            }
+            for (int other : kinds) {
+                if (other != kind) {
+                    x.does(0, other, other == 1 ? NONE : 0);
+                }
+            }
+            int truth = begunFrom(x, digestOf(kind == 1 ? 1 : 0), 0);
+            x.tick(1);
+            due("kind " + kind + " alone is left", x.about(truth, 0), kind == 1 ? DONE : FAILED);
+            x.does(0, kind, kind == 1 ? NONE : 0);
+            int fresh = placeWith(x, 0, 50, 8);
+            x.does(fresh, 1, 0);
+            int plain = begunFrom(x, digestOf(0), fresh);
+            x.tick(1);
+            due("none is left", x.about(plain, 0), DONE);
+        }
+    }
+
     // ---- Promise 6
 
     /** PLACE 0 with ten bytes is CUT; WANT 0 of these has begun. */
@@ -630,12 +662,13 @@ public final class FetchRulesBoundsOfBuilding extends Twins {
     }
 
     private static void cutTimesJustInside() {
-        promise(6, "its next so many answers (0 .. 9)");
+        terms("CUT (its first so many answers, 0 .. 9, give at most so many bytes each)");
         FetchRules none = withCut(0, 0);
         none.tick(1);
         due("0 times: not CUT", none.about(0, 2), 5);
         due("0 times: no FALTERING", none.about(0, 0), FETCHES);
 
+        promise(6, "its next so many answers (0 .. 9)");
         FetchRules nine = withCut(9, 0);
         // Six answers by CLOCK 32, when it is GIVEN UP; three more behind a new BEGINNING.
         nine.tick(32);

@@ -6,6 +6,7 @@ public final class FetchRulesBoundsOfFetching extends Twins {
         offLineCountsForBeginningAlone();
         offLineTwiceIsOffLine();
 
+        beginAnswersWhatTheWantIsThen();
         beginRefusesWantsThatAreNot();
         beginRefusesOneThatFetches();
         beginRefusesOneThatWaits();
@@ -21,6 +22,8 @@ public final class FetchRulesBoundsOfFetching extends Twins {
         tickJustInside();
         tickJustOutside();
         tickCountsFetchingAndWaiting();
+        clockGoesOnWithNothingToDo();
+        onlyOneThatFetchesHasATurn();
         waitsTillNowOrBefore();
         wantsGoByTheirNumbers();
 
@@ -29,10 +32,12 @@ public final class FetchRulesBoundsOfFetching extends Twins {
         moreBytesThanTheContent();
         liesInTheFirstByteAlone();
         liesWithoutAByte();
+        cutGivesAtMostAsManyAsTold();
         cutWithAllThenDoesNotFalter();
         cutStillIsAnAnswer();
         placesThatGiveNothingAreNotCut();
 
+        credentialIsThatOfTheTurn();
         threeLeadsAreNotTooFar();
         fourthLeadIsTooFar();
         goneOnesDoNotLead();
@@ -42,6 +47,7 @@ public final class FetchRulesBoundsOfFetching extends Twins {
         barredOnesAreAskedIfLedTo();
 
         rightDigestIsDoneAndKept();
+        rowsAreKeptByTheirDigests();
         anotherOfThatDigestStays();
         wrongDigestIsBarred();
         digestIsLookedAtInFull();
@@ -51,6 +57,7 @@ public final class FetchRulesBoundsOfFetching extends Twins {
         falteringAtEachPlaceAnew();
         falteringGoesOnWithItsBytes();
         falteringBehindAWholeAnswer();
+        falteringOnceTooOften();
 
         givenUpToTheNextThatIsNotBarred();
         givenUpWithNoBytesAndNoTurn();
@@ -59,6 +66,7 @@ public final class FetchRulesBoundsOfFetching extends Twins {
         aboutWantsThatAreNot();
         aboutAnotherWhat();
         aboutEachState();
+        aboutWhatIsNotSo();
         aboutTurnsInAll();
         aboutMostBytes();
         aboutALateClock();
@@ -120,6 +128,21 @@ public final class FetchRulesBoundsOfFetching extends Twins {
     }
 
     // ---- Promise 11 and BEGINNING
+
+    private static void beginAnswersWhatTheWantIsThen() {
+        promise(11, "BEGINNING: what the WANT is then");
+        FetchRules x = furnished();
+        due("KEPT", x.begin(0), DONE);
+        due("OFF-LINE", x.begin(4), FAILED);
+        x.offLine(false);
+        due("a PLACE", x.begin(4), FETCHES);
+        for (int want = 0; want < 6; want++) {
+            int answer = x.begin(want);
+            if (answer != NONE) {
+                due("begin(" + want + ")", answer, x.about(want, 0));
+            }
+        }
+    }
 
     private static void beginRefusesWantsThatAreNot() {
         promise(11, "NONE if there is none such");
@@ -301,6 +324,36 @@ public final class FetchRulesBoundsOfFetching extends Twins {
         due("the others are DONE", all.tick(1), 0);
     }
 
+    private static void clockGoesOnWithNothingToDo() {
+        promise(12, "The CLOCK goes on by 1 so many times (0 .. 50)");
+        int[] ticks = {0, 1, 49, 50};
+        for (int n : ticks) {
+            FetchRules x = new FetchRules(1);
+            int place = placeWith(x, 0, 1, 1);
+            x.cut(place, 1, 0);
+            x.tick(n);
+            x.tick(51);
+            x.tick(-1);
+            begunFrom(x, digestOf(1), place);
+            x.tick(1);
+            due("till, behind tick(" + n + ")", x.about(0, 3), n + 2);
+        }
+    }
+
+    private static void onlyOneThatFetchesHasATurn() {
+        terms("One that FETCHES has a TURN");
+        FetchRules x = furnished();
+        x.cut(1, 9, 0);
+        // At CLOCK 4 WANT 2 WAITS till now, falters again and WAITS till 6, when it is GIVEN UP; WANT 3 is DONE at 5.
+        int[][] turns = {{1, 2, 2, 2, 0, 0}, {1, 2, 2, 3, 0, 0}, {1, 2, 3, 3, 0, 0}, {1, 2, 4, 3, 0, 0}};
+        for (int i = 0; i < turns.length; i++) {
+            x.tick(1);
+            for (int want = 0; want < 6; want++) {
+                due("TURNS of " + want + " at CLOCK " + (4 + i), x.about(want, 4), turns[i][want]);
+            }
+        }
+    }
+
     private static void waitsTillNowOrBefore() {
         terms("one that WAITS till now or before FETCHES");
         FetchRules x = new FetchRules(3);
@@ -420,6 +473,24 @@ public final class FetchRulesBoundsOfFetching extends Twins {
 
     // ---- the TURN: CUT
 
+    private static void cutGivesAtMostAsManyAsTold() {
+        terms("it gives at most so many bytes as told");
+        int[] told = {0, 1, 4, 5, 6, 100};
+        int[] given = {0, 1, 4, 5, 5, 5};
+        for (int i = 0; i < told.length; i++) {
+            FetchRules x = new FetchRules(1);
+            int place = placeWith(x, 0, 5, upTo(20));
+            x.cut(place, 1, told[i]);
+            begunFrom(x, 99, place);
+            x.tick(1);
+            due("CUT to " + told[i] + " by a RATE of 5", x.about(0, 2), given[i]);
+            due("WAITS", x.about(0, 0), WAITS);
+            x.tick(1);
+            due("the next one isn't CUT", x.about(0, 2), given[i] + 5);
+            due("and FETCHES", x.about(0, 0), FETCHES);
+        }
+    }
+
     private static void cutWithAllThenDoesNotFalter() {
         terms("and the WANT FALTERS, if it hasn't all then");
         for (int bytes = 2; bytes <= 4; bytes++) {
@@ -495,6 +566,26 @@ public final class FetchRulesBoundsOfFetching extends Twins {
         x.content(hosts.length - 1, 5, 1);
         begunFrom(x, digestOf(5), 0);
         return x;
+    }
+
+    private static void credentialIsThatOfTheTurn() {
+        terms("It ASKS its PLACE P, with a CREDENTIAL if P's HOST has one");
+        FetchRules x = new FetchRules(0);
+        int place = placeWith(x, 6, 1, 1, 2, 3);
+        x.does(place, 2, 1);
+        x.credential(6, true);
+        int want = begunFrom(x, digestOf(1, 2, 3), place);
+        x.credential(6, false);
+        x.tick(1);
+        due("none at the TURN, though one at BEGINNING", x.about(want, 0), FAILED);
+        x.begin(want);
+        x.credential(6, true);
+        x.tick(2);
+        due("one at the TURN, though none at BEGINNING", x.about(want, 2), 2);
+        x.credential(6, false);
+        x.tick(1);
+        due("none at the third TURN", x.about(want, 0), FAILED);
+        due("sent twice", x.sent(6), 2);
     }
 
     private static void threeLeadsAreNotTooFar() {
@@ -628,6 +719,21 @@ public final class FetchRulesBoundsOfFetching extends Twins {
         due("an empty row", y.begin(y.want(0)), DONE);
     }
 
+    private static void rowsAreKeptByTheirDigests() {
+        terms("KEPT are rows of bytes by their DIGESTS");
+        FetchRules x = new FetchRules(0);
+        for (int i = 0; i < 10; i++) {
+            begunFrom(x, digestOf(i + 1, i), placeWith(x, 0, 50, i + 1, i));
+        }
+        due("ten rows", x.tick(1), 0);
+        x.offLine(true);
+        for (int i = 9; i >= 0; i--) {
+            due("begin(" + i + ")", x.begin(i), DONE);
+            due("its first byte", x.byteOf(i, 0), i + 1);
+            due("its second byte", x.byteOf(i, 1), i);
+        }
+    }
+
     private static void anotherOfThatDigestStays() {
         terms("(unless another one of that DIGEST is: that stays)");
         FetchRules x = new FetchRules(0);
@@ -759,6 +865,20 @@ public final class FetchRulesBoundsOfFetching extends Twins {
         due("the third time: FAILED", x.about(want, 0), FAILED);
     }
 
+    private static void falteringOnceTooOften() {
+        terms("then: GIVEN UP");
+        for (int retries = 0; retries <= 5; retries++) {
+            FetchRules x = faltering(retries);
+            int last = 1 << retries;
+            x.tick(last - 1);
+            due("before CLOCK " + last, x.about(0, 1), 0);
+            x.tick(1);
+            due("at CLOCK " + last, x.about(0, 1), 1);
+            due("FETCHES", x.about(0, 0), FETCHES);
+            due("TURNS", x.about(0, 4), retries + 1);
+        }
+    }
+
     // ---- the TURN: GIVEN UP
 
     private static void givenUpToTheNextThatIsNotBarred() {
@@ -836,7 +956,13 @@ public final class FetchRulesBoundsOfFetching extends Twins {
     }
 
     private static void aboutEachState() {
-        promise(13, "1 its PLACE (while it FETCHES or WAITS), 2 how many bytes it has, 3 till when it WAITS");
+        terms("A WANT is IDLE (0), FETCHES (1), WAITS (2), is DONE (3), or has FAILED (4)");
+        dueEachState();
+        promise(13, "0 what it is, 1 its PLACE (while it FETCHES or WAITS), 2 how many bytes it has, 3 till when it WAITS");
+        dueEachState();
+    }
+
+    private static void dueEachState() {
         FetchRules x = furnished();
         dueAbout(x, 0, DONE, NONE, 11, NONE, 1);
         dueAbout(x, 1, FAILED, NONE, 0, NONE, 2);
@@ -844,6 +970,25 @@ public final class FetchRulesBoundsOfFetching extends Twins {
         dueAbout(x, 3, FETCHES, 0, 2, NONE, 1);
         dueAbout(x, 4, IDLE, NONE, 0, NONE, 0);
         dueAbout(x, 5, FAILED, NONE, 0, NONE, 0);
+    }
+
+    private static void aboutWhatIsNotSo() {
+        promise(13, "NONE if there is none such, it isn't so");
+        FetchRules x = furnished();
+        int[] notAtAPlace = {0, 1, 4, 5};
+        for (int want : notAtAPlace) {
+            due("its PLACE, " + want, x.about(want, 1), NONE);
+        }
+        int[] notWaiting = {0, 1, 3, 4, 5};
+        for (int want : notWaiting) {
+            due("till when, " + want, x.about(want, 3), NONE);
+        }
+        x.tick(1);
+        x.cut(1, 0, 0);
+        x.tick(2);
+        due("one that WAITED is DONE", x.about(2, 0), DONE);
+        due("its PLACE no more", x.about(2, 1), NONE);
+        due("till no more", x.about(2, 3), NONE);
     }
 
     private static void aboutTurnsInAll() {

@@ -16,6 +16,7 @@ public final class FetchRulesBoundsOfUnpacking extends Twins {
         unpackIsNotMovedByItsPlace();
         unpackOfWhatIsKept();
 
+        entriesGoToTheRowsEnd();
         pathLengthJustInside();
         pathLengthJustOutside();
         pathLengthBeforeWhatLacks();
@@ -176,6 +177,16 @@ public final class FetchRulesBoundsOfUnpacking extends Twins {
     }
 
     // ---- ILL
+
+    private static void entriesGoToTheRowsEnd() {
+        terms("a row of ENTRIES to its end");
+        int[] row = {};
+        for (int i = 0; i < 14; i++) {
+            row = joined(row, archive("a." + i / 10 + i % 10, i % 2));
+            due(i + 1 + " ENTRIES", unpacked(0, row), i + 1);
+        }
+        dueIll("a byte behind them", row.length, joined(row, 0));
+    }
 
     private static void pathLengthJustInside() {
         terms("a byte n (1 .. 20)");

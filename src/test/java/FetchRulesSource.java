@@ -1,3 +1,5 @@
+import com.sun.management.ThreadMXBean;
+import java.lang.management.ManagementFactory;
 import java.lang.reflect.Constructor;
 import java.lang.reflect.Field;
 import java.lang.reflect.Method;
@@ -20,8 +22,11 @@ public final class FetchRulesSource {
         "int lacks(int)", "int place(int, int)", "int sent(int)", "int tick(int)", "int unpack(int, int)", "int want(int)",
         "void offLine(boolean)"};
     private static final String[] FORBIDDEN = {
-        "import", "package", "throw", "throws", "try", "catch", "synchronized", "assert", "->", "::", "Object", "protected",
+        "package", "throw", "throws", "try", "catch", "synchronized", "assert", "->", "::", "Object", "protected",
         "\\w+Exception", "\\w+Exact", "var"};
+
+    // A run's room has 7.3 million fields and elements; most are of four bytes or more.
+    private static final long MOST_BYTES_TAKEN = 4L * 7_300_000;
 
     private static int wrong = 0;
 
@@ -36,6 +41,7 @@ public final class FetchRulesSource {
         checkFace();
         checkClasses();
         checkText();
+        checkRoom();
         System.out.println(wrong == 0 ? "face and text are as told" : wrong + " faults of face or text");
         if (wrong != 0) {
             System.exit(1);
@@ -104,20 +110,41 @@ public final class FetchRulesSource {
         }
     }
 
+    /** All calls of one run live in one room, so 512 of the dearest may not take much of it. */
+    private static void checkRoom() {
+        ThreadMXBean threads = (ThreadMXBean) ManagementFactory.getThreadMXBean();
+        long self = Thread.currentThread().getId();
+        long before = threads.getThreadAllocatedBytes(self);
+        FetchRules x = new FetchRules(5);
+        for (int place = 0; place < 10; place++) {
+            x.place(0, 1);
+            for (int i = 0; i < 11; i++) {
+                // Three ENTRIES of one character and no bytes each; nine bytes take two calls.
+                x.content(place, 0x016100016200L, 6);
+                x.content(place, 0x016300L, 3);
+            }
+            x.from(x.want(x.digest(place)), place);
+            x.begin(place);
+        }
+        x.tick(50);
+        x.tick(50);
+        for (int i = 0; i < 238; i++) {
+            x.unpack(i % 10, i % 6);
+        }
+        long taken = threads.getThreadAllocatedBytes(self) - before;
+        wants(x.about(9, 0) == 3, "the dearest calls are reached");
+        wants(taken < MOST_BYTES_TAKEN, "512 calls take little room, not " + taken + " bytes");
+    }
+
     private static void checkText() throws Exception {
         String text = Files.readString(SOURCE);
         String code = text.replaceAll("(?s)/\\*.*?\\*/", "").replaceAll("//[^\n]*", "");
+        code = code.replaceAll("import java\\.util\\.(ArrayList|Arrays|Iterator|List);", "");
+        wants(!code.contains("import "), "the library is only what is listed");
         for (String word : FORBIDDEN) {
             boolean isSign = word.equals("->") || word.equals("::");
             Matcher found = Pattern.compile(isSign ? word : "\\b" + word + "\\b").matcher(code);
             wants(!found.find(), "the class is without " + word);
-        }
-        // What makes objects stands in field initialisers and constructors, so that no call uses up the room.
-        Matcher makes = Pattern.compile("(?m)^.*\\bnew\\b.*$").matcher(code);
-        while (makes.find()) {
-            String line = makes.group().trim();
-            boolean isField = line.contains(" final ") || line.startsWith("final ");
-            wants(isField || line.matches("(places|wants|rows)\\[i\\] = new \\w+\\(\\);"), "made in a constructor: " + line);
         }
     }
 }

@@ -1,168 +1,249 @@
 import java.util.Random;
 
-/** Runs of up to 512 calls with arguments of all kinds: no call may throw, and no answer may leave its range. */
-public final class FetchRulesWild {
-    private static final int RUNS = 4000;
-    // What furnishes an object and what is asked at the end count among its 512 calls too.
-    private static final int CALLS = 400;
-    private static final int[] EXTREMES = {Integer.MIN_VALUE, -1000, -2, -1, 17, 51, 101, Integer.MAX_VALUE};
+/** Long runs of calls with arguments of all kinds: none may throw, and each answers what the model answers. */
+public final class FetchRulesWild extends Checks {
+    private static final int RUNS = 6000;
+    private static final int MOST_CALLS = 512;
+    private static final int[] EXTREMES = {LOW, -1000, -2, -1, 6, 8, 10, 16, 51, 100, 101, HIGH};
 
-    private static int wrong = 0;
+    private final Random random;
+    private final FetchRules real;
+    private final Model model;
+    private int calls = 0;
 
-    private static void within(int run, String call, long got, long least, long most) {
-        if (got < least || got > most) {
-            wrong++;
-            System.out.println("run " + run + ": " + call + " answered " + got + ", due is " + least + " .. " + most);
-        }
-    }
-
-    /** Mostly 0 .. bound - 1, so that runs come far; now and then something else. */
-    private static int some(Random random, int bound) {
-        return random.nextInt(20) == 0 ? EXTREMES[random.nextInt(EXTREMES.length)] : random.nextInt(bound);
+    private FetchRulesWild(int run) {
+        random = new Random(run);
+        int retries = run % 8 - 1;
+        real = new FetchRules(retries);
+        model = new Model(retries);
     }
 
     public static void main(String[] args) {
-        long done = 0;
-        long failed = 0;
-        long tellings = 0;
-        long unpacked = 0;
+        String[] kinds = {"WANTS that are DONE", "WANTS that FAILED", "WANTS that WAIT", "runs with a BARRED PLACE",
+            "runs with a WANT that LACKS", "runs with a FILE"};
+        int[] reached = new int[kinds.length];
         for (int run = 0; run < RUNS; run++) {
-            FetchRules x = new FetchRules(run % 8 - 1);
-            long[] answers = play(run, x);
-            long[] again = play(-1 - run, new FetchRules(run % 8 - 1));
-            for (int i = 0; i < CALLS; i++) {
-                if (answers[i] != again[i]) {
-                    wrong++;
-                    System.out.println("run " + run + ": call " + i + " answered " + answers[i] + " and then " + again[i]);
-                }
-            }
-            for (int want = 0; want < 10; want++) {
-                done += x.about(want, 0) == 3 ? 1 : 0;
-                failed += x.about(want, 0) == 4 ? 1 : 0;
-            }
-            tellings += x.barred(0, 0) != -1 ? 1 : 0;
-            unpacked += x.file(0, 0) != -1 ? 1 : 0;
+            heldTo = "run " + run;
+            new FetchRulesWild(run).play(reached);
         }
-        // Runs that never come that far would look at nothing.
-        within(RUNS, "WANTS that are DONE", done, RUNS, Long.MAX_VALUE);
-        within(RUNS, "WANTS that FAILED", failed, RUNS, Long.MAX_VALUE);
-        within(RUNS, "runs with a BARRED PLACE", tellings, RUNS / 10, Long.MAX_VALUE);
-        within(RUNS, "runs with a FILE", unpacked, RUNS / 10, Long.MAX_VALUE);
-        System.out.println(wrong == 0 ? "no call went astray" : wrong + " answers are not as due");
-        if (wrong != 0) {
-            System.exit(1);
+        heldTo = "all runs";
+        for (int i = 0; i < reached.length; i++) {
+            // Runs that never come that far would look at nothing.
+            due("enough " + kinds[i], reached[i] > RUNS / 30, true);
         }
+        end();
     }
 
-    /** Plays a run by its number; the same run under -1 less its number. */
-    private static long[] play(int number, FetchRules x) {
-        Random random = new Random(number < 0 ? -1 - number : number);
-        furnish(x, random);
-        long[] answers = new long[CALLS];
-        for (int i = 0; i < CALLS; i++) {
-            answers[i] = random.nextInt(3) == 0 ? build(number, x, random) : use(number, x, random);
+    private void play(int[] reached) {
+        furnish();
+        while (calls < MOST_CALLS - 13) {
+            switch (random.nextInt(5)) {
+                case 0:
+                    build();
+                    break;
+                case 1:
+                    go();
+                    break;
+                case 2:
+                    lookAtWants();
+                    break;
+                default:
+                    look();
+                    break;
+            }
         }
-        return answers;
+        for (int want = 0; want < 10; want++) {
+            int state = real.about(want, 0);
+            reached[0] += state == DONE ? 1 : 0;
+            reached[1] += state == FAILED ? 1 : 0;
+            reached[2] += state == WAITS ? 1 : 0;
+        }
+        reached[3] += real.barred(0, 0) != NONE ? 1 : 0;
+        reached[4] += real.lacks(0) != NONE ? 1 : 0;
+        reached[5] += real.file(0, 0) != NONE ? 1 : 0;
     }
+
+    private void same(String call, long got, long want) {
+        calls++;
+        due(call, got, want);
+    }
+
+    private void same(String call, boolean got, long want) {
+        same(call, got ? 1 : 0, want);
+    }
+
+    /** Mostly least .. most, so that runs come far; now and then something else. */
+    private int some(int least, int most) {
+        boolean isOdd = random.nextInt(25) == 0;
+        return isOdd ? EXTREMES[random.nextInt(EXTREMES.length)] : least + random.nextInt(most - least + 1);
+    }
+
+    private static String written(String name, long... arguments) {
+        StringBuilder text = new StringBuilder(name).append('(');
+        for (int i = 0; i < arguments.length; i++) {
+            text.append(i == 0 ? "" : ", ").append(arguments[i]);
+        }
+        return text.append(')').toString();
+    }
+
+    // ---- calls that build
 
     /** PLACES with ARCHIVES and WANTS of these, since arguments by chance alone rarely fit one another. */
-    private static void furnish(FetchRules x, Random random) {
+    private void furnish() {
         for (int i = 0; i < 6; i++) {
-            x.place(random.nextInt(8), 1 + random.nextInt(50));
-            for (int j = random.nextInt(4); j >= 0; j--) {
-                appendEntry(x, i, random);
+            place(random.nextInt(4), 1 + random.nextInt(i % 2 == 0 ? 8 : 50));
+            for (int j = random.nextInt(4); j > 0; j--) {
+                appendEntry(i);
             }
-            x.want(x.digest(i));
-            x.from(i, random.nextInt(6));
-            x.from(i, i);
+            want(real.digest(i));
+            from(i, random.nextInt(6));
+            from(i, i);
+            from(i, random.nextInt(6));
         }
     }
 
-    /** A whole ENTRY: a .. d with no byte, or d/b with one. */
-    private static boolean appendEntry(FetchRules x, int place, Random random) {
-        return random.nextBoolean()
-            ? x.content(place, 0x016100L + (random.nextInt(4) << 8), 3)
-            : x.content(place, 0x03642F620107L, 6);
-    }
-
-    private static long build(int run, FetchRules x, Random random) {
-        switch (random.nextInt(9)) {
+    private void build() {
+        int place = some(0, 7);
+        switch (random.nextInt(10)) {
             case 0:
-                return x.credential(some(random, 8), random.nextBoolean()) ? 1 : 0;
-            case 1: {
-                int place = x.place(some(random, 8), some(random, 51));
-                within(run, "place", place, -1, 15);
-                return place;
-            }
-            case 2:
-                return appendEntry(x, some(random, 16), random) ? 1 : 0;
-            case 3:
-                return x.content(some(random, 16), random.nextLong(), some(random, 9)) ? 1 : 0;
-            case 4:
-                return x.does(some(random, 16), some(random, 4), some(random, 16) - 1) ? 1 : 0;
-            case 5:
-                return x.does(some(random, 16), random.nextInt(4), random.nextBoolean() ? -1 : 0) ? 1 : 0;
-            case 6:
-                return x.cut(some(random, 16), some(random, 10), some(random, 101)) ? 1 : 0;
-            case 7: {
-                int want = x.want(random.nextInt(8) == 0 ? random.nextInt() : x.digest(some(random, 16)));
-                within(run, "want", want, -1, 9);
-                return want;
-            }
-            default:
-                return x.from(some(random, 10), some(random, 16)) ? 1 : 0;
-        }
-    }
-
-    private static long use(int run, FetchRules x, Random random) {
-        int answer;
-        switch (random.nextInt(12)) {
-            case 0:
-                x.offLine(random.nextInt(4) == 0);
-                return 0;
+                credential(some(0, 4), random.nextInt(3) != 0);
+                break;
             case 1:
-                answer = x.begin(some(random, 10));
-                within(run, "begin", answer, -1, 4);
-                return answer;
+                place(some(0, 7), some(1, 50));
+                break;
             case 2:
-                answer = x.tick(some(random, 6));
-                within(run, "tick", answer, -1, 10);
-                return answer;
-            case 3: {
-                int what = some(random, 5);
-                answer = x.about(some(random, 10), what);
-                long most = what == 0 ? 4 : what == 1 ? 15 : what == 2 ? 100 : 50L * CALLS;
-                within(run, "about", answer, -1, most);
-                return answer;
-            }
+                appendEntry(place);
+                break;
+            case 3:
+                content(place, random.nextLong(), some(1, 8));
+                break;
             case 4:
-                answer = x.byteOf(some(random, 10), some(random, 100));
-                within(run, "byteOf", answer, -1, 255);
-                return answer;
+                does(place, some(0, 3), some(-1, 7));
+                break;
             case 5:
-                answer = x.barred(some(random, 20), some(random, 2));
-                within(run, "barred", answer, -1, 15);
-                return answer;
+                // Most of what PLACES do keeps WANTS from being DONE, so it is ended often.
+                int kind = random.nextInt(4);
+                does(place, kind, kind == 1 ? NONE : 0);
+                break;
             case 6:
-                return x.came(some(random, 20));
             case 7:
-                answer = x.lacks(some(random, 10));
-                within(run, "lacks", answer, -1, 9);
-                return answer;
+                cut(place, some(0, 9), some(0, random.nextBoolean() ? 5 : 100));
+                break;
             case 8:
-                answer = x.sent(some(random, 8));
-                within(run, "sent", answer, 0, 4L * 10 * 50 * CALLS);
-                return answer;
-            case 9:
-                answer = x.unpack(some(random, 10), some(random, 6));
-                within(run, "unpack", answer == -1000 ? -101 : answer, -101, 33);
-                return answer;
-            case 10:
-                answer = x.file(some(random, 33), some(random, 4));
-                within(run, "file", answer, -1, 100);
-                return answer;
+                want(random.nextInt(8) == 0 ? random.nextInt() : real.digest(random.nextInt(8)));
+                break;
             default:
-                return x.digest(some(random, 16));
+                from(some(0, 9), some(0, 15));
+                break;
+        }
+    }
+
+    private void credential(int host, boolean on) {
+        same(written("credential", host, on ? 1 : 0), real.credential(host, on), model.credential(host, on));
+    }
+
+    private void place(int host, int rate) {
+        same(written("place", host, rate), real.place(host, rate), model.place(host, rate));
+    }
+
+    private void content(int place, long w, int n) {
+        same(written("content", place, w, n), real.content(place, w, n), model.content(place, w, n));
+    }
+
+    /** A whole ENTRY: a .. d with no byte, d/b with one, or c/d/b, which may be wrong. */
+    private void appendEntry(int place) {
+        switch (random.nextInt(4)) {
+            case 0:
+                content(place, 0x03642F620107L, 6);
+                break;
+            case 1:
+                content(place, 0x05632F642F620000L + (random.nextInt(20) == 0 ? 0x01 : 0), 7);
+                break;
+            default:
+                content(place, 0x016100L + (random.nextInt(4) << 8), 3);
+                break;
+        }
+    }
+
+    private void does(int place, int kind, int which) {
+        same(written("does", place, kind, which), real.does(place, kind, which), model.does(place, kind, which));
+    }
+
+    private void cut(int place, int times, int bytes) {
+        same(written("cut", place, times, bytes), real.cut(place, times, bytes), model.cut(place, times, bytes));
+    }
+
+    private void want(int digest) {
+        calls++;
+        same(written("want", digest), real.want(digest), model.want(digest));
+    }
+
+    private void from(int want, int place) {
+        same(written("from", want, place), real.from(want, place), model.from(want, place));
+    }
+
+    // ---- calls that go on, and calls that look
+
+    private void go() {
+        switch (random.nextInt(8)) {
+            case 0:
+                boolean on = random.nextInt(3) == 0;
+                real.offLine(on);
+                same("offLine", 0, model.offLine(on));
+                break;
+            case 1:
+            case 2:
+            case 3:
+                int want = some(0, 9);
+                same(written("begin", want), real.begin(want), model.begin(want));
+                break;
+            default:
+                int n = some(0, random.nextInt(10) == 0 ? 50 : 3);
+                same(written("tick", n), real.tick(n), model.tick(n));
+                break;
+        }
+    }
+
+    private void lookAtWants() {
+        int want = some(0, 9);
+        int what = some(0, 4);
+        int k = some(0, random.nextBoolean() ? 1 : 5);
+        switch (random.nextInt(4)) {
+            case 0:
+                int i = some(0, random.nextBoolean() ? 5 : 99);
+                same(written("byteOf", want, i), real.byteOf(want, i), model.byteOf(want, i));
+                break;
+            case 1:
+                same(written("unpack", want, k), real.unpack(want, k), model.unpack(want, k));
+                break;
+            default:
+                same(written("about", want, what), real.about(want, what), model.about(want, what));
+                break;
+        }
+    }
+
+    private void look() {
+        int i = some(0, 5);
+        int what = some(0, 3);
+        switch (random.nextInt(6)) {
+            case 0:
+                same(written("barred", i, what), real.barred(i, what), model.barred(i, what));
+                break;
+            case 1:
+                same(written("came", i), real.came(i), model.came(i));
+                break;
+            case 2:
+                same(written("lacks", i), real.lacks(i), model.lacks(i));
+                break;
+            case 3:
+                same(written("sent", i), real.sent(i), model.sent(i));
+                break;
+            case 4:
+                same(written("digest", i), real.digest(i), model.digest(i));
+                break;
+            default:
+                same(written("file", i, what), real.file(i, what), model.file(i, what));
+                break;
         }
     }
 }
