@@ -941,10 +941,10 @@ public final class FetchRulesBoundsOfFetching extends Twins {
 
     private static void aboutAnotherWhat() {
         promise(13, "or for another what");
-        FetchRules x = furnished();
-        for (int want = 0; want < 6; want++) {
+        for (int i = 0; i < 6; i++) {
+            int want = i;
             for (int what : joined(FAR_OUT, -1, 5)) {
-                due("about(" + want + ", " + what + ")", x.about(want, what), NONE);
+                refused("about(" + want + ", " + what + ")", NONE, Twins::furnished, x -> x.about(want, what));
             }
         }
     }
@@ -1053,6 +1053,9 @@ public final class FetchRulesBoundsOfFetching extends Twins {
         for (int i : joined(FAR_OUT, -1, 3, 99, 100)) {
             due("byteOf(0, " + i + ") of 3", y.byteOf(0, i), NONE);
         }
+        for (int i : joined(FAR_OUT, -1, 11, 100)) {
+            refused("byteOf(0, " + i + ") of 11", NONE, Twins::furnished, z -> z.byteOf(0, i));
+        }
     }
 
     private static void byteOfWantsThatAreNot() {
@@ -1097,6 +1100,8 @@ public final class FetchRulesBoundsOfFetching extends Twins {
         for (int i : joined(FAR_OUT, -1, 1, 60)) {
             due("barred(" + i + ", 0)", x.barred(i, 0), NONE);
             due("barred(" + i + ", 1)", x.barred(i, 1), NONE);
+            refused("barred(" + i + ", 0)", NONE, Twins::furnished, y -> y.barred(i, 0));
+            refused("barred(" + i + ", 1)", NONE, Twins::furnished, y -> y.barred(i, 1));
         }
     }
 
@@ -1105,6 +1110,7 @@ public final class FetchRulesBoundsOfFetching extends Twins {
         FetchRules x = withOneTold(2);
         for (int what : joined(FAR_OUT, -1, 2)) {
             due("barred(0, " + what + ")", x.barred(0, what), NONE);
+            refused("barred(0, " + what + ")", NONE, Twins::furnished, y -> y.barred(0, what));
         }
     }
 
@@ -1114,6 +1120,7 @@ public final class FetchRulesBoundsOfFetching extends Twins {
         due("came(0)", x.came(0), digestOf(1, 2));
         for (int i : joined(FAR_OUT, -1, 1, 60)) {
             due("came(" + i + ")", x.came(i), 0);
+            refused("came(" + i + ")", 0, Twins::furnished, y -> y.came(i));
         }
     }
 
@@ -1152,7 +1159,7 @@ public final class FetchRulesBoundsOfFetching extends Twins {
         FetchRules x = furnished();
         due("lacks(0)", x.lacks(0), 5);
         for (int i : joined(FAR_OUT, -1, 1, 10)) {
-            due("lacks(" + i + ")", x.lacks(i), NONE);
+            refused("lacks(" + i + ")", NONE, Twins::furnished, y -> y.lacks(i));
         }
     }
 

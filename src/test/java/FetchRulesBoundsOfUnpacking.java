@@ -401,6 +401,10 @@ public final class FetchRulesBoundsOfUnpacking extends Twins {
         dueFile(x, 1, 7, 2, 5, 1);
         for (int i : joined(FAR_OUT, -1, 2, 33)) {
             dueFile(x, i, NONE, NONE, NONE, NONE);
+            for (int what = 0; what <= 3; what++) {
+                int asked = what;
+                refused("file(" + i + ", " + what + ")", NONE, Twins::furnished, y -> y.file(i, asked));
+            }
         }
     }
 
@@ -410,6 +414,7 @@ public final class FetchRulesBoundsOfUnpacking extends Twins {
         x.unpack(0, 0);
         for (int what : joined(FAR_OUT, -1, 4)) {
             due("file(0, " + what + ")", x.file(0, what), NONE);
+            refused("file(0, " + what + ")", NONE, Twins::furnished, y -> y.file(0, what));
         }
     }
 
