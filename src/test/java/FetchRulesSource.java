@@ -15,12 +15,9 @@ import java.util.regex.Pattern;
 /** The public face, and those rules of LANGUAGE.md that can be seen without running the class. */
 public final class FetchRulesSource {
     private static final Path SOURCE = Path.of("src/main/java/FetchRules.java");
-    private static final String[] FACE = {
-        "boolean content(int, long, int)", "boolean credential(int, boolean)", "boolean cut(int, int, int)",
-        "boolean does(int, int, int)", "boolean from(int, int)", "int about(int, int)", "int barred(int, int)",
-        "int begin(int)", "int byteOf(int, int)", "int came(int)", "int digest(int)", "int file(int, int)",
-        "int lacks(int)", "int place(int, int)", "int sent(int)", "int tick(int)", "int unpack(int, int)", "int want(int)",
-        "void offLine(boolean)"};
+    private static final Path DOCUMENT = Path.of("../shared/DOC.md");
+    // 'public int place(int host, int rate);' in the face that the document shows
+    private static final Pattern METHOD = Pattern.compile("public (\\w+ \\w+)\\(([^)]*)\\);");
     private static final String[] FORBIDDEN = {
         "package", "throw", "throws", "try", "catch", "synchronized", "assert", "->", "::", "Object", "protected",
         "\\w+Exception", "\\w+Exact", "var"};
@@ -58,6 +55,16 @@ public final class FetchRulesSource {
         return text.append(')').toString();
     }
 
+    /** The methods of the document's face, written like those of the class. */
+    private static TreeSet<String> face() throws Exception {
+        TreeSet<String> methods = new TreeSet<>();
+        Matcher method = METHOD.matcher(Files.readString(DOCUMENT));
+        while (method.find()) {
+            methods.add(method.group(1) + "(" + method.group(2).replaceAll("(\\w+) \\w+", "$1") + ")");
+        }
+        return methods;
+    }
+
     private static void checkFace() throws Exception {
         wants(Modifier.isPublic(FetchRules.class.getModifiers()), "the class is public");
         wants(Modifier.isFinal(FetchRules.class.getModifiers()), "the class is final");
@@ -73,7 +80,7 @@ public final class FetchRulesSource {
                 names.add(method.getName());
             }
         }
-        wants(open.equals(new TreeSet<>(List.of(FACE))), "the public methods are the document's: " + open);
+        wants(open.equals(face()), "the public methods are the document's: " + open);
         for (String name : hidden) {
             wants(!names.contains(name), "no private method bears the name of a public one: " + name);
         }

@@ -38,6 +38,13 @@ abstract class Checks {
         due(what, got ? 1L : 0L, want ? 1L : 0L);
     }
 
+    static void dueText(String what, Object got, Object want) {
+        checked++;
+        if (!String.valueOf(got).equals(String.valueOf(want))) {
+            complain(what + " answered " + got + ", due is " + want);
+        }
+    }
+
     static void complain(String what) {
         wrong++;
         System.out.println(heldTo + ": " + what);
@@ -49,6 +56,11 @@ abstract class Checks {
         if (wrong != 0) {
             System.exit(1);
         }
+    }
+
+    /** The answers that follow are held to these words of what the document begins with. */
+    static void opening(String words) {
+        quote("What it is", "## What it is", words);
     }
 
     /** The answers that follow are held to these words of a promise. */
