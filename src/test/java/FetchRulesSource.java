@@ -8,6 +8,7 @@ import java.nio.file.Files;
 import java.nio.file.Path;
 import java.util.ArrayList;
 import java.util.List;
+import java.util.Set;
 import java.util.TreeSet;
 import java.util.regex.Matcher;
 import java.util.regex.Pattern;
@@ -24,6 +25,10 @@ public final class FetchRulesSource {
 
     // A run's room has 7.3 million fields and elements; most are of four bytes or more.
     private static final long MOST_BYTES_TAKEN = 4L * 7_300_000;
+
+    private static final Set<Class<?>> CONSTANT_TYPES = Set.of(int.class, long.class, boolean.class, char.class,
+        String.class, int[].class, long[].class, char[].class, byte[].class);
+    private static final int MOST_LINES_OF_METHOD = 60;
 
     private static int wrong = 0;
 
@@ -108,6 +113,8 @@ public final class FetchRulesSource {
             for (Field field : one.getDeclaredFields()) {
                 boolean isStatic = Modifier.isStatic(field.getModifiers());
                 wants(!isStatic || Modifier.isFinal(field.getModifiers()), field + " is final, as it is static");
+                wants(!isStatic || CONSTANT_TYPES.contains(field.getType()), field + " is a constant that rule 5 allows");
+                wants(isOfRuleThree(field.getType(), classes), field + " has a type that rule 3 allows");
                 fields += isStatic ? 0 : 1;
             }
             wants(fields <= 20, one + " has twenty fields at the most");
@@ -115,6 +122,11 @@ public final class FetchRulesSource {
                 wants(method.getParameterCount() <= 7, method + " has seven parameters at the most");
             }
         }
+    }
+
+    private static boolean isOfRuleThree(Class<?> type, List<Class<?>> own) {
+        Class<?> element = type.isArray() ? type.getComponentType() : type;
+        return element.isPrimitive() || element == String.class || own.contains(element);
     }
 
     /** All calls of one run live in one room, so 512 of the dearest may not take much of it. */
@@ -153,5 +165,24 @@ public final class FetchRulesSource {
             Matcher found = Pattern.compile(isSign ? word : "\\b" + word + "\\b").matcher(code);
             wants(!found.find(), "the class is without " + word);
         }
+        checkMethodLengths(text.split("\n"));
+    }
+
+    /** A method begins with a line that ends in ') {' behind a modifier or type, and ends with a brace as far in. */
+    private static void checkMethodLengths(String[] lines) {
+        Pattern head = Pattern.compile("( {4}| {8})\\w[\\w\\[\\] ]*\\(.*\\) \\{");
+        int methods = 0;
+        for (int i = 0; i < lines.length; i++) {
+            Matcher found = head.matcher(lines[i]);
+            if (found.matches() && !lines[i].strip().matches("(if|for|while|switch) .*")) {
+                methods++;
+                int last = i;
+                while (last < lines.length && !lines[last].equals(found.group(1) + "}")) {
+                    last++;
+                }
+                wants(last - i < MOST_LINES_OF_METHOD, "a short method at line " + (i + 1));
+            }
+        }
+        wants(methods > 20, "methods are found in the text");
     }
 }
